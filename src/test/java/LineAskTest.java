@@ -84,6 +84,9 @@ public final class LineAskTest {
         Gapline y = LinePutTest.with(0, Check.LEAST, Check.GREATEST);
         Check.same("rank least", y.rank(0, Check.LEAST, true), 1);
         Check.same("rank greatest", y.rank(0, Check.GREATEST, false), 1);
+        Gapline z = LinePutTest.with(0, 4, 5, 6);
+        Check.same("rank beside others", z.rank(0, 5, false), 1);
+        Check.same("rank beside others, in", z.rank(0, 5, true), 2);
     }
 
     private static void beyond() {
@@ -98,6 +101,9 @@ public final class LineAskTest {
         Gapline y = LinePutTest.with(0, Check.LEAST, Check.GREATEST);
         Check.same("beyond least", y.beyond(0, Check.LEAST, false), 1);
         Check.same("beyond greatest", y.beyond(0, Check.GREATEST, true), 1);
+        Gapline z = LinePutTest.with(0, 4, 5, 6);
+        Check.same("beyond beside others", z.beyond(0, 5, false), 1);
+        Check.same("beyond beside others, in", z.beyond(0, 5, true), 2);
     }
 
     private static void between() {

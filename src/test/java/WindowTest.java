@@ -88,6 +88,9 @@ public final class WindowTest {
         Check.same("windowTake at its bound", x.windowTake(40), 1);
         Check.same("windowTake leaves", x.text(1, false), "10 30 50");
         Check.same("windowTake is not refused", x.house(5), 0);
+        LinePutTest.add(x, 1, 29, 31);
+        Check.same("windowTake beside others", x.windowTake(30), 1);
+        Check.same("windowTake takes one alone", x.text(1, false), "10 29 31 50");
         Gapline y = LinePutTest.with(0, 0);
         Check.same("windowTake without a window", y.windowTake(0), -9);
         Check.same("windowTake without a window counts", y.house(5), 1);
