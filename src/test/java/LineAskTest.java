@@ -180,6 +180,7 @@ public final class LineAskTest {
         Check.same("widest", LinePutTest.with(0, 1, 2, 9, 12).widest(0), "7@2");
         Check.same("widest, first of like ones", LinePutTest.with(0, -5, 0, 5, 6).widest(0), "5@-5");
         Check.same("widest at the end", LinePutTest.with(0, 0, 1, 3).widest(0), "2@1");
+        Check.same("widest of numbers in a row", LinePutTest.with(0, 4, 5, 6).widest(0), "1@4");
         Check.same("widest of one", LinePutTest.with(0, 3).widest(0), "");
         Check.same("widest of none", new Gapline().widest(0), "");
         Gapline y = LinePutTest.with(0, Check.LEAST, Check.GREATEST);
