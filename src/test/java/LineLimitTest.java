@@ -178,6 +178,9 @@ public final class LineLimitTest {
             Check.same("17 beyond, full", x.beyond(2, i * 10, false), 19 - i);
             Check.same("17 beyond in, full", x.beyond(2, i * 10, true), 20 - i);
             Check.same("18 between, full", x.between(2, 0, i * 10, true, true), i + 1);
+            Check.same("18 between without low, full", x.between(2, 0, i * 10, false, true), i);
+            Check.same("18 between without high, full", x.between(2, 0, i * 10, true, false), i);
+            Check.same("18 between without both, full", x.between(2, 0, i * 10, false, false), Math.max(0, i - 1));
             Check.same("18 between alike, full", x.between(2, i * 10, i * 10, true, true), 1);
         }
     }

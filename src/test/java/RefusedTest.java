@@ -16,13 +16,6 @@ public final class RefusedTest {
         Check.end();
     }
 
-    /** Line 1 with 10, 20, up to 50, and a window from 15 to 40 over it. */
-    private static Gapline opened() {
-        Gapline x = LinePutTest.with(1, 10, 20, 30, 40, 50);
-        x.look(1, 15, 40);
-        return x;
-    }
-
     private static void put() {
         for (int number : new int[] {Check.LEAST, -1, 5, 191, Check.GREATEST}) {
             Kept.refused("2 put to a full line " + number, LinePutTest.full(3), x -> x.put(3, number));
@@ -43,6 +36,10 @@ public final class RefusedTest {
         Kept.refused("8 join 1 to 20, and like ones",
                 LinePutTest.add(LinePutTest.full(0), 1, 10, 20, 5), x -> x.join(0, 1));
         Kept.refused("8 join 20 to 1", LinePutTest.add(LinePutTest.full(0), 1, 5), x -> x.join(1, 0));
+        Kept.refused("8 join 1 to 20 on other lines",
+                LinePutTest.add(LinePutTest.full(2), 3, 5), x -> x.join(2, 3));
+        Check.same("8 join on lines beside a full one",
+                LinePutTest.add(LinePutTest.add(LinePutTest.full(0), 1, 1), 2, 5).join(1, 2), 1);
         Gapline y = LinePutTest.add(LinePutTest.full(0), 1, 10, 4, 5);
         y.take(0, 190);
         Kept.refused("8 join 2 and a like one to 19", y, x -> x.join(0, 1));
@@ -65,15 +62,15 @@ public final class RefusedTest {
         Kept.refused("28 narrow, never a window, all",
                 new Gapline(), x -> x.narrow(Check.LEAST, Check.GREATEST));
         Kept.refused("28 narrow, a closed window", Rich.shut(), x -> x.narrow(2, 3));
-        Kept.refused("28 narrow, low just outside", opened(), x -> x.narrow(14, 40));
-        Kept.refused("28 narrow, high just outside", opened(), x -> x.narrow(15, 41));
-        Kept.refused("28 narrow, both below it", opened(), x -> x.narrow(3, 14));
-        Kept.refused("28 narrow, both above it", opened(), x -> x.narrow(41, 50));
-        Kept.refused("28 narrow, around it", opened(), x -> x.narrow(14, 41));
-        Kept.refused("28 narrow to all", opened(), x -> x.narrow(Check.LEAST, Check.GREATEST));
-        Kept.refused("28 narrow, low far outside", opened(), x -> x.narrow(Check.LEAST, 20));
-        Kept.refused("28 narrow, high far outside", opened(), x -> x.narrow(20, Check.GREATEST));
-        Gapline y = opened();
+        Kept.refused("28 narrow, low just outside", Rich.opened(), x -> x.narrow(14, 40));
+        Kept.refused("28 narrow, high just outside", Rich.opened(), x -> x.narrow(15, 41));
+        Kept.refused("28 narrow, both below it", Rich.opened(), x -> x.narrow(3, 14));
+        Kept.refused("28 narrow, both above it", Rich.opened(), x -> x.narrow(41, 50));
+        Kept.refused("28 narrow, around it", Rich.opened(), x -> x.narrow(14, 41));
+        Kept.refused("28 narrow to all", Rich.opened(), x -> x.narrow(Check.LEAST, Check.GREATEST));
+        Kept.refused("28 narrow, low far outside", Rich.opened(), x -> x.narrow(Check.LEAST, 20));
+        Kept.refused("28 narrow, high far outside", Rich.opened(), x -> x.narrow(20, Check.GREATEST));
+        Gapline y = Rich.opened();
         y.narrow(20, 30);
         Kept.refused("28 narrow, back to a wider one", y, x -> x.narrow(15, 40));
     }
@@ -82,12 +79,12 @@ public final class RefusedTest {
         Kept.refused("29 windowPut, never a window", new Gapline(), x -> x.windowPut(0));
         Kept.refused("29 windowPut, a closed window", Rich.shut(), x -> x.windowPut(5));
         Kept.refused("29 windowPut, a closed window, there", Rich.shut(), x -> x.windowPut(2));
-        Kept.refused("29 windowPut, just below it", opened(), x -> x.windowPut(14));
-        Kept.refused("29 windowPut, just above it", opened(), x -> x.windowPut(41));
-        Kept.refused("29 windowPut, below it, there", opened(), x -> x.windowPut(10));
-        Kept.refused("29 windowPut, above it, there", opened(), x -> x.windowPut(50));
-        Kept.refused("29 windowPut, least", opened(), x -> x.windowPut(Check.LEAST));
-        Kept.refused("29 windowPut, greatest", opened(), x -> x.windowPut(Check.GREATEST));
+        Kept.refused("29 windowPut, just below it", Rich.opened(), x -> x.windowPut(14));
+        Kept.refused("29 windowPut, just above it", Rich.opened(), x -> x.windowPut(41));
+        Kept.refused("29 windowPut, below it, there", Rich.opened(), x -> x.windowPut(10));
+        Kept.refused("29 windowPut, above it, there", Rich.opened(), x -> x.windowPut(50));
+        Kept.refused("29 windowPut, least", Rich.opened(), x -> x.windowPut(Check.LEAST));
+        Kept.refused("29 windowPut, greatest", Rich.opened(), x -> x.windowPut(Check.GREATEST));
         Kept.refused("29 windowPut, a full line", Rich.object(), x -> x.windowPut(26));
         Kept.refused("29 windowPut, a full line, at the bound", Rich.object(), x -> x.windowPut(25));
         Kept.refused("29 windowPut, a full line, outside", Rich.object(), x -> x.windowPut(96));
@@ -99,23 +96,23 @@ public final class RefusedTest {
         Kept.refused("30 windowTake, never a window", LinePutTest.with(0, 3), x -> x.windowTake(3));
         Kept.refused("30 windowTake, a closed window", Rich.shut(), x -> x.windowTake(2));
         Kept.refused("30 windowTake, a closed window, not there", Rich.shut(), x -> x.windowTake(5));
-        Kept.answers("30 windowTake, outside, there", opened(), x -> x.windowTake(10), 0);
-        Kept.answers("30 windowTake, outside, not there", opened(), x -> x.windowTake(14), 0);
-        Kept.answers("30 windowTake, above it, there", opened(), x -> x.windowTake(50), 0);
-        Kept.answers("30 windowTake, inside, not there", opened(), x -> x.windowTake(15), 0);
+        Kept.answers("30 windowTake, outside, there", Rich.opened(), x -> x.windowTake(10), 0);
+        Kept.answers("30 windowTake, outside, not there", Rich.opened(), x -> x.windowTake(14), 0);
+        Kept.answers("30 windowTake, above it, there", Rich.opened(), x -> x.windowTake(50), 0);
+        Kept.answers("30 windowTake, inside, not there", Rich.opened(), x -> x.windowTake(15), 0);
     }
 
     private static void windowRank() {
         Kept.refused("33 windowRank, never a window", new Gapline(), x -> x.windowRank(0));
         Kept.refused("33 windowRank, a closed window", Rich.shut(), x -> x.windowRank(2));
-        Kept.refused("33 windowRank, just below it", opened(), x -> x.windowRank(14));
-        Kept.refused("33 windowRank, just above it", opened(), x -> x.windowRank(41));
-        Kept.refused("33 windowRank, below it, there", opened(), x -> x.windowRank(10));
-        Kept.refused("33 windowRank, above it, there", opened(), x -> x.windowRank(50));
-        Kept.refused("33 windowRank, least", opened(), x -> x.windowRank(Check.LEAST));
-        Kept.refused("33 windowRank, greatest", opened(), x -> x.windowRank(Check.GREATEST));
-        Kept.answers("33 windowRank, least bound", opened(), x -> x.windowRank(15), 0);
-        Kept.answers("33 windowRank, greatest bound", opened(), x -> x.windowRank(40), 2);
+        Kept.refused("33 windowRank, just below it", Rich.opened(), x -> x.windowRank(14));
+        Kept.refused("33 windowRank, just above it", Rich.opened(), x -> x.windowRank(41));
+        Kept.refused("33 windowRank, below it, there", Rich.opened(), x -> x.windowRank(10));
+        Kept.refused("33 windowRank, above it, there", Rich.opened(), x -> x.windowRank(50));
+        Kept.refused("33 windowRank, least", Rich.opened(), x -> x.windowRank(Check.LEAST));
+        Kept.refused("33 windowRank, greatest", Rich.opened(), x -> x.windowRank(Check.GREATEST));
+        Kept.answers("33 windowRank, least bound", Rich.opened(), x -> x.windowRank(15), 0);
+        Kept.answers("33 windowRank, greatest bound", Rich.opened(), x -> x.windowRank(40), 2);
     }
 
     private static void reserve() {

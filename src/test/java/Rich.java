@@ -36,6 +36,13 @@ final class Rich {
         return LinePutTest.with(0, Check.LEAST, Check.GREATEST);
     }
 
+    /** Line 1 with 10, 20, up to 50, and a window from 15 to 40 over it. */
+    static Gapline opened() {
+        Gapline x = LinePutTest.with(1, 10, 20, 30, 40, 50);
+        x.look(1, 15, 40);
+        return x;
+    }
+
     /** A window that was opened over line 1, which has 1, 2, 3, and that copy() closed. */
     static Gapline shut() {
         Gapline x = LinePutTest.with(1, 1, 2, 3);

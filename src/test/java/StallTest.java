@@ -21,14 +21,6 @@ public final class StallTest {
         return x;
     }
 
-    private static Gapline sixteen() {
-        Gapline x = new Gapline();
-        for (int i = 0; i < 16; i++) {
-            x.reserve(i * 10, i * 10 + 8);
-        }
-        return x;
-    }
-
     private static void reserve() {
         Gapline x = new Gapline();
         Check.same("reserve", x.reserve(5, 7), 1);
@@ -45,7 +37,7 @@ public final class StallTest {
         Check.same("reserve all", x.reserve(9, Check.GREATEST), 5);
         Check.badArgument("reserve low above high", () -> x.reserve(1, 0));
         Check.badArgument("reserve ends turned", () -> new Gapline().reserve(Check.GREATEST, Check.LEAST));
-        Gapline y = sixteen();
+        Gapline y = Rich.sixteen();
         Check.same("reserve 16", y.stalls(0), "16");
         Check.same("reserve a 17th", y.reserve(1000, 1000), -9);
         Check.same("reserve a 17th counts", y.house(5), 1);
@@ -86,7 +78,7 @@ public final class StallTest {
         Check.same("merge of the last one at the end", y.merge(Check.GREATEST), 0);
         Check.same("merge to all", y.merge(Check.LEAST), 1);
         Check.same("merge to all text", y.stall(0), "-2147483648..2147483647");
-        Gapline z = sixteen();
+        Gapline z = Rich.sixteen();
         z.reserve(9, 9);
         z.release(150);
         z.reserve(9, 9);
@@ -170,7 +162,7 @@ public final class StallTest {
         y.reserve(Check.LEAST, Check.GREATEST);
         Check.same("stalls all", y.stalls(0) + " " + y.stalls(1), "1 4294967296");
         Check.same("stalls all, stretches", y.stalls(2) + " " + y.stalls(3), "0 0");
-        Gapline z = sixteen();
+        Gapline z = Rich.sixteen();
         Check.same("stalls 16 stretches", z.stalls(3), "17");
         for (int bad : new int[] {-1, 5, Check.LEAST, Check.GREATEST}) {
             Check.badArgument("stalls what " + bad, () -> x.stalls(bad));

@@ -162,14 +162,8 @@ public final class WindowLimitTest {
         Check.same("34 window has the new bounds", x.window(1) + x.window(2), "56");
     }
 
-    private static Gapline seen() {
-        Gapline x = LinePutTest.with(1, 10, 20, 30, 40, 50);
-        x.look(1, 15, 45);
-        return x;
-    }
-
     private static void eachMomentPutTake() {
-        Gapline x = seen();
+        Gapline x = Rich.opened();
         x.put(1, 16);
         Check.same("2 put is shown", x.window(4), "16 20 30 40");
         x.put(1, 14);
@@ -186,24 +180,24 @@ public final class WindowLimitTest {
         Check.same("4 poll last is shown", x.window(4), "30");
         x.clear(1);
         Check.same("5 clear is shown", x.window(3), "0");
-        Check.same("5 clear leaves the window", x.window(0) + x.window(1) + x.window(2), "11545");
-        x.put(1, 45);
-        Check.same("2 put at the bound after clear", x.window(4), "45");
+        Check.same("5 clear leaves the window", x.window(0) + x.window(1) + x.window(2), "11540");
+        x.put(1, 40);
+        Check.same("2 put at the bound after clear", x.window(4), "40");
     }
 
     private static void eachMomentCuts() {
-        Gapline x = seen();
+        Gapline x = Rich.opened();
         x.cut(1, 30, false);
         Check.same("6 cut below is shown", x.window(4), "30 40");
         x.cut(1, 40, true);
         Check.same("6 cut back is shown", x.window(4), "30");
         x.cutBetween(1, 25, 35);
         Check.same("7 cutBetween is shown", x.window(4), "");
-        Check.same("7 cutBetween leaves the window", x.window(0) + x.window(1) + x.window(2), "11545");
+        Check.same("7 cutBetween leaves the window", x.window(0) + x.window(1) + x.window(2), "11540");
     }
 
     private static void eachMomentPairs() {
-        Gapline x = LinePutTest.add(seen(), 0, 20, 25, 60);
+        Gapline x = LinePutTest.add(Rich.opened(), 0, 20, 25, 60);
         x.join(1, 0);
         Check.same("8 join is shown", x.window(4), "20 25 30 40");
         x.less(1, 0);
@@ -215,11 +209,11 @@ public final class WindowLimitTest {
         Check.same("9 less of itself is shown", x.window(4), "");
         x.join(1, 0);
         Check.same("8 join again is shown", x.window(4), "20 25 40");
-        Check.same("34 the window is the same", x.window(0) + x.window(1) + x.window(2), "11545");
+        Check.same("34 the window is the same", x.window(0) + x.window(1) + x.window(2), "11540");
     }
 
     private static void sameLineAgain() {
-        Gapline x = seen();
+        Gapline x = Rich.opened();
         Check.same("27 look at the same line, wider", x.look(1, Check.LEAST, 100), 5);
         Check.same("34 window least", x.window(1), "-2147483648");
         Check.same("27 look at the same line, elsewhere", x.look(1, 46, 49), 0);
@@ -244,7 +238,7 @@ public final class WindowLimitTest {
     /** A window that is emptied leaves all that it does not show. */
     private static void outsideStays() {
         for (boolean isLast : new boolean[] {false, true}) {
-            Gapline x = seen();
+            Gapline x = Rich.opened();
             String[] due = isLast ? new String[] {"40", "30", "20"} : new String[] {"20", "30", "40"};
             for (String each : due) {
                 Check.same("31 windowPoll each", x.windowPoll(isLast), each);
@@ -255,13 +249,13 @@ public final class WindowLimitTest {
     }
 
     private static void narrowSteps() {
-        Gapline x = seen();
-        Check.same("28 narrow low alone", x.narrow(20, 45), 3);
-        Check.same("28 narrow high alone", x.narrow(20, 40), 3);
-        Check.same("28 narrow both by 1", x.narrow(21, 39), 1);
+        Gapline x = Rich.opened();
+        Check.same("28 narrow low alone", x.narrow(20, 40), 3);
+        Check.same("28 narrow high alone", x.narrow(20, 39), 2);
+        Check.same("28 narrow both by 1", x.narrow(21, 38), 1);
         Check.same("34 window after it", x.window(4), "30");
-        Kept.refused("28 narrow, low 1 below", x, y -> y.narrow(20, 39));
-        Kept.refused("28 narrow, high 1 above", x, y -> y.narrow(21, 40));
+        Kept.refused("28 narrow, low 1 below", x, y -> y.narrow(20, 38));
+        Kept.refused("28 narrow, high 1 above", x, y -> y.narrow(21, 39));
         Check.same("28 narrow to its least", x.narrow(21, 21), 0);
         Check.same("28 narrow to the same", x.narrow(21, 21), 0);
         Check.same("34 window least then", x.window(1) + x.window(2), "2121");

@@ -12,13 +12,6 @@ public final class WindowTest {
         Check.end();
     }
 
-    /** Line 1 with 10, 20, up to 50, and a window from 15 to 40 over it. */
-    private static Gapline opened() {
-        Gapline x = LinePutTest.with(1, 10, 20, 30, 40, 50);
-        x.look(1, 15, 40);
-        return x;
-    }
-
     private static void look() {
         Gapline x = LinePutTest.with(1, 10, 20, 30);
         Check.same("look", x.look(1, 10, 20), 2);
@@ -37,7 +30,7 @@ public final class WindowTest {
     }
 
     private static void narrow() {
-        Gapline x = opened();
+        Gapline x = Rich.opened();
         Check.same("narrow", x.narrow(20, 30), 2);
         Check.same("narrow bounds", x.window(1) + ".." + x.window(2), "20..30");
         Check.same("narrow to the same", x.narrow(20, 30), 2);
@@ -57,7 +50,7 @@ public final class WindowTest {
     }
 
     private static void windowPut() {
-        Gapline x = opened();
+        Gapline x = Rich.opened();
         Check.same("windowPut", x.windowPut(25), 1);
         Check.same("windowPut comes to the line", x.text(1, false), "10 20 25 30 40 50");
         Check.same("windowPut again", x.windowPut(25), 0);
@@ -79,7 +72,7 @@ public final class WindowTest {
     }
 
     private static void windowTake() {
-        Gapline x = opened();
+        Gapline x = Rich.opened();
         Check.same("windowTake", x.windowTake(20), 1);
         Check.same("windowTake goes from the line", x.text(1, false), "10 30 40 50");
         Check.same("windowTake again", x.windowTake(20), 0);
@@ -98,7 +91,7 @@ public final class WindowTest {
     }
 
     private static void windowPoll() {
-        Gapline x = opened();
+        Gapline x = Rich.opened();
         Check.same("windowPoll last", x.windowPoll(true), "40");
         Check.same("windowPoll first", x.windowPoll(false), "20");
         Check.same("windowPoll leaves", x.text(1, false), "10 30 50");
@@ -111,7 +104,7 @@ public final class WindowTest {
     }
 
     private static void windowNear() {
-        Gapline x = opened();
+        Gapline x = Rich.opened();
         Check.same("windowNear at most", x.windowNear(100, 0), "40");
         Check.same("windowNear at most, there", x.windowNear(30, 0), "30");
         Check.same("windowNear at most, none", x.windowNear(19, 0), "");
@@ -137,7 +130,7 @@ public final class WindowTest {
     }
 
     private static void windowRank() {
-        Gapline x = opened();
+        Gapline x = Rich.opened();
         Check.same("windowRank low bound", x.windowRank(15), 0);
         Check.same("windowRank of the first", x.windowRank(20), 0);
         Check.same("windowRank behind the first", x.windowRank(21), 1);
@@ -151,7 +144,7 @@ public final class WindowTest {
     }
 
     private static void window() {
-        Gapline x = opened();
+        Gapline x = Rich.opened();
         Check.same("window line", x.window(0), "1");
         Check.same("window least", x.window(1), "15");
         Check.same("window greatest", x.window(2), "40");
